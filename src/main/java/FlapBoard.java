@@ -824,7 +824,7 @@ public final class FlapBoard {
                 return false;
             }
             for (int k = 0; k < word.length(); k++) {
-                if (word.charAt(k) != byteAt(begun + k)) {
+                if (word.charAt(k) != bytes[begun + k]) {
                     return false;
                 }
             }
