@@ -54,7 +54,6 @@ public final class FlapBoard {
     private final Program program;
     private final Past past;
     private final Board[] shelves;
-    private int done;
 
     public FlapBoard() {
         tape = new Tape();
@@ -64,7 +63,6 @@ public final class FlapBoard {
         program = new Program();
         past = new Past();
         shelves = new Board[SHELF_COUNT];
-        done = 0;
     }
 
     // ---- the tape, and what it tells
@@ -209,9 +207,7 @@ public final class FlapBoard {
         int answer = whyNotProgram();
         if (answer == 0) {
             past.push(board);
-            done = 0;
-            doSteps(0, program.size, 0);
-            answer = done;
+            answer = doProgram();
         }
         tape.size = 0;
         return answer;
@@ -226,18 +222,16 @@ public final class FlapBoard {
         return tape.isSound() ? 0 : REFUSED - tape.fault;
     }
 
-    private void doSteps(int from, int to, int depth) {
-        int step = from;
-        for (int k = 0; k < Program.ROOM && step < to && done < MOST_DONE; k++) {
-            done++;
-            boolean loops = program.kindOf(step) == WORD_TIMES && depth < MOST_OPEN;
-            int times = loops ? program.oneOf(step) : 0;
-            for (int time = 0; time < times && done < MOST_DONE; time++) {
-                doSteps(step + 1, program.endOf(step), depth + 1);
+    private int doProgram() {
+        program.startDoing();
+        for (int done = 0; done < MOST_DONE; done++) {
+            if (!program.hasStep(program.at)) {
+                return done;
             }
-            doStep(step);
-            step = program.endOf(step);
+            doStep(program.at);
+            program.goOn();
         }
+        return MOST_DONE;
     }
 
     private void doStep(int step) {
@@ -263,7 +257,7 @@ public final class FlapBoard {
                 board.setLost(one, two);
                 break;
             default:
-                // The body of times is done by doSteps.
+                // times only leads into its body, by goOn.
                 break;
         }
     }
@@ -987,9 +981,12 @@ public final class FlapBoard {
         final int[] twos;
         final int[] quoted;
         final int[] ends;
+        // The times whose bodies are open, as they are read or done, and how often each is still to be done again.
         final int[] open;
-        int size;
+        final int[] again;
         int depth;
+        int size;
+        int at;
 
         Program() {
             kinds = new int[ROOM];
@@ -998,6 +995,7 @@ public final class FlapBoard {
             quoted = new int[ROOM];
             ends = new int[ROOM];
             open = new int[MOST_OPEN];
+            again = new int[MOST_OPEN];
         }
 
         boolean hasStep(int step) {
@@ -1022,6 +1020,31 @@ public final class FlapBoard {
 
         int endOf(int step) {
             return hasStep(step) ? ends[step] : size;
+        }
+
+        void startDoing() {
+            at = 0;
+            depth = 0;
+        }
+
+        /** To the step that is done behind this one: into a body, or on, or back to where an open body begins. */
+        void goOn() {
+            if (kindOf(at) == WORD_TIMES && oneOf(at) > 0 && depth < MOST_OPEN) {
+                open[depth] = at;
+                again[depth] = oneOf(at) - 1;
+                depth++;
+                at++;
+                return;
+            }
+            at = endOf(at);
+            for (int k = 0; k < MOST_OPEN && depth > 0 && at == endOf(open[depth - 1]); k++) {
+                if (again[depth - 1] > 0) {
+                    again[depth - 1]--;
+                    at = open[depth - 1] + 1;
+                } else {
+                    depth--;
+                }
+            }
         }
 
         void readFrom(Tape text, Board board) {

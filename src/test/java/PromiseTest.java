@@ -198,6 +198,8 @@ public final class PromiseTest {
         due("no log", x.log(0, 1), 0);
         due("no blanks", tell("board2 3limit4;drum2' abc'"), 1);
         due("many blanks", tell("  board  02 003 limit   4 ;  drum 2   'ab'  ;row 1'b' ; lose 5 0 "), 1);
+        due("the first and the last sign", tell("board 1 3 limit 1;drum 1 ' ~!';row 0 '~!~'"), 1);
+        shown("shown", letters(0), "~!~");
         due("none quoted", tell("board 1 2 limit 1;drum 1 'ab';row 0 'bb';row 0 ''"), 1);
         shown("all home", letters(0), "aa");
         due("cells are as at first", tell("board 1 2 limit 1;drum 1 'ab';drum 9 'xyz';row 0 'bb';worn 0 1;lose 0 3;cells 0 0 1"), 2);
@@ -236,6 +238,12 @@ public final class PromiseTest {
         fault("   ", 3, 1);
         fault("boar 1 1 limit 1", 0, 1);
         fault("boards 1 1 limit 1", 0, 1);
+        fault("boardz 1 1 limit 1", 0, 1);
+        fault("aboard 1 1 limit 1", 0, 1);
+        fault("board`1 1 limit 1", 5, 1);
+        fault("board{1 1 limit 1", 5, 1);
+        fault("board/1 1 limit 1", 5, 1);
+        fault("board 1:1 limit 1", 7, 1);
         fault("Board 1 1 limit 1", 0, 1);
         fault("board", 5, 1);
         fault("board x", 6, 1);
@@ -324,6 +332,8 @@ public final class PromiseTest {
         due("no sign", row(0, "\u001f"), -2);
         due("no sign", row(0, "\u007f"), -2);
         due("no sign", row(0, "\u00ff"), -2);
+        due("the last sign", row(0, "~"), 1);
+        x.undo();
         due("NONE ahead of -2", row(9, "abcdef"), -1);
         due("no acts", x.count(5), acts);
         shown("wanted still", letters(1), "   /x  ");
@@ -523,6 +533,19 @@ public final class PromiseTest {
         due("200", run("lose 1 1;times 18 (lose 0 1;lose 0 2;lose 0 3;lose 0 4;lose 0 5;lose 0 6;lose 0 7;lose 0 8;lose 0 9;lose 0 0;lose 0 2);lose 1 7"), 200);
         due("loses", x.cell(0, 5), 2);
         due("loses", x.cell(1, 5), 1);
+        tell(SAMPLE);
+        due("home", run("home 0"), 1);
+        shown("wanted", letters(1), "   /   ");
+        due("left", x.left(0), 5);
+        due("wait", run("wait 2"), 1);
+        due("left", x.left(0), 1);
+        due("settle", run("settle"), 1);
+        due("left", x.left(0), 0);
+        due("ticks", x.total(1), 3);
+        due("none turns", run("settle"), 1);
+        due("row of nothing", run("row 1 '';scroll ''"), 2);
+        due("home of the last row", run("row 1 'xyz';home 1"), 2);
+        shown("wanted", letters(1), "   /   ");
         due("three open", run("times 2 (times 2 (times 2 (settle)))"), 15);
         due("side by side", run("times 1 (settle);times 1(times 1(settle);times 2 (settle))"), 8);
         x = new FlapBoard();
@@ -784,6 +807,17 @@ public final class PromiseTest {
         due("what -1", x.total(-1), -1);
         x.when(0);
         due("trials do not count", x.total(1), 7);
+        due("found of a cell", x.cell(1, 7), 2);
+        due("steps of a cell", x.cell(1, 6), 6);
+        x.undo();
+        due("undone", x.cell(1, 7), 0);
+        due("undone", x.cell(1, 6), 3);
+        int[] undone = {13, 4, 7, 0};
+        for (int what = 0; what < 4; what++) due("undone " + what, x.total(what), undone[what]);
+        x.tick(99);
+        tell(SAMPLE);
+        for (int what = 0; what < 4; what++) due("anew " + what, x.total(what), 0);
+        due("anew", x.cell(1, 7), 0);
     }
 
     private static void words() {
@@ -951,6 +985,10 @@ public final class PromiseTest {
         due("between the two", x.better(0, 0), 2);
         due("first", x.better(0, 1), 2);
         due("second", x.better(0, 2), 3);
+        tell("board 1 2 limit 9;drum 1 ' abcd';row 0 'bc'");
+        row(0, "cb");
+        // 2 to 3, 3 to 2: 5 wherever they are
+        due("there and back", x.better(0, 0), -2);
         tell("board 1 1 limit 9;drum 1 ' abcd';row 0 'a'");
         row(0, "d");
         // 1 to 4: 3; beside one another by 1 and 3, by 2 and 4
@@ -986,6 +1024,10 @@ public final class PromiseTest {
         x.mend(3, 3);
         due("of its own", x.lacks(3, 0), 2);
         due("what 2", x.lacks(3, 2), -1);
+        x.keep(0);
+        tell("board 1 1 limit 9;drum 1 'ab';drum 1 'b~ ';drum 1 'c~a'");
+        due("of some other", x.lacks(0, 1), 3);
+        x.back(0);
         due("what -1", x.lacks(3, -1), -1);
         due("cell 6", x.lacks(6, 0), -1);
         due("cell -1", x.lacks(-1, 0), -1);

@@ -54,10 +54,18 @@ public final class RandomRunsTest {
             else if (kind < 40) fine = text(rowText(), "scroll");
             else if (kind < 44) fine = text(rowText(), null) && call("cost", number(6)) && call("place", number(6), number(2));
             else if (kind < 48) fine = text(rowText() + "/" + rowText() + "/" + rowText(), null) && call("best", number(6), number(3));
+            else if (kind < 52) fine = aboutLog(number(3));
+            else if (kind < 56) fine = call("settle");
             else fine = any();
-            fine = fine && call("digest") && call("count", upTo(8));
+            fine = fine && call("digest") && call("count", upTo(8)) && call("total", upTo(3));
+            fine = fine && call("cell", upTo(Math.max(0, plain.s.cells.size() - 1)), upTo(8)) && call("log", upTo(3), upTo(2));
         }
         if (!fine) wrong++;
+    }
+
+    private boolean aboutLog(int drum) throws Exception {
+        return call("better", drum, number(2)) && call("better", drum, upTo(2)) && call("usual", drum, number(1))
+            && call("often", drum, number(5), random.nextBoolean());
     }
 
     private int number(int usual) {
@@ -149,7 +157,7 @@ public final class RandomRunsTest {
 
     private String boardText() {
         int size = upTo(4) == 0 ? 40 : 5;
-        String[] alphabets = {" ab", " abcdef", " abcdefghijklmnopqrstuvwxyz0123456789.,-!?/", "xyz /"};
+        String[] alphabets = {" ab", " abcdef", " abcdefghijklmnopqrstuvwxyz0123456789.,-!?/", "xyz /", "~a!~b"};
         alphabet = alphabets[random.nextInt(alphabets.length)];
         int rows = 1 + upTo(upTo(3) == 0 ? 5 : 2);
         int wide = 1 + upTo(upTo(3) == 0 ? 9 : 3);
