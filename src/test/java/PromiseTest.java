@@ -1,76 +1,13 @@
 /** Promise by promise: ordinary inputs, the edges that the document names, wrong inputs; answers worked out by hand. */
-public final class PromiseTest {
-    private static final String SAMPLE =
-        "board 2 3 limit 4;drum 2 ' abc';drum 3 ' xyxz';cells 3 5 1;row 0 'ab';lose 1 2";
-    private static int wrong = 0;
-    private static int promise = 0;
-    private static FlapBoard x;
-
-    private static void due(String call, long got, long want) {
-        if (got != want) {
-            wrong++;
-            System.out.println("promise " + promise + ": " + call + " answered " + got + ", due is " + want);
-        }
-    }
-
-    /** The tape has this text alone. */
-    private static void tape(String s) {
-        x.end(0);
-        for (int i = 0; i < s.length(); i += 20) {
-            int[] v = new int[5];
-            for (int k = 0; k < 20; k++) v[k / 4] = v[k / 4] << 8 | (i + k < s.length() ? s.charAt(i + k) : 0);
-            x.feed(v[0], v[1], v[2], v[3], v[4]);
-        }
-        x.end(s.length());
-    }
-
-    private static int tell(String s) {
-        tape(s);
-        return x.tell();
-    }
-
-    private static int row(int row, String s) {
-        tape(s);
-        return x.row(row);
-    }
-
-    private static int scroll(String s) {
-        tape(s);
-        return x.scroll();
-    }
-
-    private static int run(String s) {
-        tape(s);
-        return x.run();
-    }
-
+public final class PromiseTest extends Bench {
     private static void fresh(int number, String s) {
-        promise = number;
+        promise(number);
         x = new FlapBoard();
         if (s != null) tell(s);
     }
 
-    private static String letters(int what) {
-        StringBuilder b = new StringBuilder();
-        for (int k = 0; k < x.letter(what, -1); k++) b.append((char) x.letter(what, k));
-        return b.toString();
-    }
-
-    private static void shown(String what, String got, String want) {
-        if (!got.equals(want)) {
-            wrong++;
-            System.out.println("promise " + promise + ": " + what + " is '" + got + "', due is '" + want + "'");
-        }
-    }
-
-    private static void fault(String s, int place, int kind) {
-        due("tell " + s, tell(s), -2 - (8 * place + kind));
-        due("tape behind it", x.count(6), 0);
-    }
-
-    private static void runFault(String s, int place, int kind) {
-        due("run " + s, run(s), -2 - (8 * place + kind));
-        due("tape behind it", x.count(6), 0);
+    private static void promise(int number) {
+        about = "promise " + number;
     }
 
     public static void main(String[] args) {
@@ -101,8 +38,7 @@ public final class PromiseTest {
         restsUnlikeLetter();
         digestsAndCounts();
         extremes();
-        System.out.println(wrong == 0 ? "all promises are kept" : wrong + " answers are not as due");
-        if (wrong != 0) System.exit(1);
+        finish("all promises are kept");
     }
 
     private static void newObject() {
@@ -162,7 +98,7 @@ public final class PromiseTest {
         x.end(6);
         due("row", x.row(0), 0);
         shown("wanted", letters(1), "abcdef    ");
-        promise = 3;
+        promise(3);
         x = new FlapBoard();
         due("end of nothing", x.end(0), 0);
         due("end beyond", x.end(1), -1);
@@ -218,8 +154,7 @@ public final class PromiseTest {
         // the nearest flap from what is believed, in a text too
         tell("board 1 1 limit 9;drum 1 'abcb';row 0 'c';row 0 'b'");
         due("nearest", x.cell(0, 1), 3);
-        String forty = "0123456789012345678901234567890123456789";
-        due("four drums of 40", tell("board 4 10 limit 99;drum 9 '" + forty + "';drum 1 '" + forty + "';drum 1 '" + forty + "';drum 1 '" + forty + "'"), 4);
+        due("four drums of 40", tell("board 4 10 limit 99;drum 9 '" + FORTY + "';drum 1 '" + FORTY + "';drum 1 '" + FORTY + "';drum 1 '" + FORTY + "'"), 4);
         // a new board: nothing undone, shelves stay
         x.tick(1);
         x.keep(1);
@@ -278,11 +213,10 @@ public final class PromiseTest {
         fault("board 1 1 limit 5;drum 1 'a\u007fb'", 27, 1);
         fault("board 1 1 limit 5;drum 1 'a\u001fb'", 27, 1);
         fault("board 1 1 limit 5;drum 1 'ab\u00e9'", 28, 1);
-        String forty = "0123456789012345678901234567890123456789";
-        fault("board 1 1 limit 5;drum 1 '" + forty + "x'", 66, 2);
+        fault("board 1 1 limit 5;drum 1 '" + FORTY + "x'", 66, 2);
         // of one place the least
-        fault("board 1 1 limit 5;drum 1 '" + forty + "\u0001'", 66, 1);
-        fault("board 1 1 limit 5;drum 1 '" + forty, 66, 1);
+        fault("board 1 1 limit 5;drum 1 '" + FORTY + "\u0001'", 66, 1);
+        fault("board 1 1 limit 5;drum 1 '" + FORTY, 66, 1);
         String one = "board 1 1 limit 5;drum 1 'ab'";
         fault(one + "x", 29, 1);
         fault(one + ";row 0 'aa'", 38, 2);
@@ -443,7 +377,7 @@ public final class PromiseTest {
         due("cell 6", x.lose(6, 1), -1);
         due("cell -1", x.lose(-1, 1), -1);
         due("acts", x.count(5), 2);
-        promise = 10;
+        promise(10);
         due("wear", x.wear(0, 3), 1);
         due("wear it again", x.wear(0, 3), -2);
         due("wear home", x.wear(0, 0), -1);
@@ -457,7 +391,7 @@ public final class PromiseTest {
         due("not in the log", x.log(0, 1), 0);
         due("worn", x.worn(0), 0b1010);
         due("worn of cell", x.cell(0, 8), 2);
-        promise = 11;
+        promise(11);
         due("mend", x.mend(0, 3), 1);
         due("mend again", x.mend(0, 3), -2);
         due("mend home", x.mend(0, 0), -2);
@@ -634,7 +568,7 @@ public final class PromiseTest {
         due("kept", x.count(7), 3);
         due("acts stay", x.count(5), 2);
         long kept = x.digest();
-        promise = 17;
+        promise(17);
         due("shelf 2", x.back(2), -1);
         due("shelf -1", x.back(-1), -1);
         x.settle();
@@ -677,25 +611,25 @@ public final class PromiseTest {
         due("what -1", x.cell(0, -1), -1);
         due("cell 6", x.cell(6, 0), -1);
         due("cell -1", x.cell(-1, 0), -1);
-        promise = 19;
+        promise(19);
         due("worn", x.worn(0), 0);
         due("cell 6", x.worn(6), -1);
         due("cell -1", x.worn(-1), -1);
-        promise = 20;
+        promise(20);
         int[] drum = {3, 5, 3, 4, 2};
         for (int what = 0; what < 5; what++) due("drum 1, " + what, x.drum(1, what), drum[what]);
         due("what 5", x.drum(1, 5), -1);
         due("what -1", x.drum(1, -1), -1);
         due("drum 2", x.drum(2, 0), -1);
         due("drum -1", x.drum(-1, 0), -1);
-        promise = 21;
+        promise(21);
         due("sign", x.sign(1, 4), 'z');
         due("sign", x.sign(0, 0), ' ');
         due("flap 4", x.sign(0, 4), -1);
         due("flap -1", x.sign(0, -1), -1);
         due("drum 2", x.sign(2, 0), -1);
         due("drum -1", x.sign(-1, 0), -1);
-        promise = 22;
+        promise(22);
         row(0, "cbb");
         due("shows", x.at(0, 1, 0), 'c');
         due("believes", x.at(0, 1, 1), 'a');
@@ -706,9 +640,8 @@ public final class PromiseTest {
         due("row -1", x.at(-1, 0, 0), -1);
         due("column 3", x.at(0, 3, 0), -1);
         due("column -1", x.at(1, -1, 0), -1);
-        promise = 19;
-        String forty = "0123456789012345678901234567890123456789";
-        tell("board 1 1 limit 9;drum 1 '" + forty + "'");
+        promise(19);
+        tell("board 1 1 limit 9;drum 1 '" + FORTY + "'");
         x.wear(0, 39);
         x.wear(0, 31);
         due("high bits", x.worn(0), 1L << 39 | 1L << 31);
@@ -742,7 +675,7 @@ public final class PromiseTest {
         tell("board 4 10 limit 99;drum 1 'ab'");
         row(3, "aaaaaaaaab");
         due("a high bit", x.which(0), 1L << 39);
-        promise = 24;
+        promise(24);
         tell(SAMPLE);
         row(0, "cab");
         due("together", x.left(0), 7);
@@ -762,11 +695,11 @@ public final class PromiseTest {
     private static void whens() {
         fresh(25, SAMPLE);
         for (int what = 0; what < 6; what++) due("when nothing is left, " + what, x.when(what), 0);
-        promise = 26;
+        promise(26);
         due("loudest of nothing", x.loudest(0), -2);
         due("loudest of nothing", x.loudest(1), -2);
         due("loudest NONE ahead of -2", x.loudest(2), -1);
-        promise = 25;
+        promise(25);
         row(0, "cab");
         int[] first = {4, 7, 13, 4, 1, 0};
         for (int what = 0; what < 6; what++) due("when " + what, x.when(what), first[what]);
@@ -780,7 +713,7 @@ public final class PromiseTest {
         due("what 6", x.when(6), -1);
         due("what -1", x.when(-1), -1);
         due("nothing was found", x.total(3), 0);
-        promise = 26;
+        promise(26);
         // twice the dear one alone, then two cheap ones
         tell("board 1 3 limit 4;drum 4 'abc';drum 2 'xyz';cells 1 2 1");
         row(0, "cyy");
@@ -788,7 +721,7 @@ public final class PromiseTest {
         due("loudest", x.loudest(1), 4);
         due("what -1", x.loudest(-1), -1);
         due("what 2", x.loudest(2), -1);
-        promise = 25;
+        promise(25);
         due("most current", x.when(3), 4);
         due("ticks", x.when(0), 3);
     }
@@ -835,7 +768,7 @@ public final class PromiseTest {
         due("NONE ahead of -2", x.cost(2), -1);
         tape("a'");
         due("no sign", x.cost(0), -2);
-        promise = 29;
+        promise(29);
         // ba: 1 to 2, 2 to 1 round about: 1 + 3; ab: 0
         tape("ba/ab");
         due("best", x.best(0, 0), 1);
@@ -868,7 +801,7 @@ public final class PromiseTest {
     }
 
     private static void places() {
-        promise = 30;
+        promise(30);
         // believed 1 2 0: b from column 0: 1 + 2 + 0, from 1: 3 + 0 + 0, from 2: 3 + 2 + 2
         tape("b");
         due("the first of two", x.place(0, 0), 0);
@@ -902,10 +835,10 @@ public final class PromiseTest {
     private static void logs() {
         fresh(31, SAMPLE);
         due("journey of nothing", x.log(0, 0), 0);
-        promise = 33;
+        promise(33);
         due("usual of nothing", x.usual(0, 0), -2);
         due("NONE ahead of -2", x.usual(0, 2), -1);
-        promise = 31;
+        promise(31);
         row(0, "cab");
         // 1 to 3, 2 to 1, 0 to 2
         due("journey", x.log(0, 0), 7);
@@ -928,7 +861,7 @@ public final class PromiseTest {
         due("what -1", x.log(0, -1), -1);
         due("drum 2", x.log(2, 0), -1);
         due("drum -1", x.log(-1, 0), -1);
-        promise = 32;
+        promise(32);
         due("from 1", x.often(0, 1, false), 3);
         due("to 1", x.often(0, 1, true), 2);
         due("to home", x.often(0, 0, true), 2);
@@ -936,7 +869,7 @@ public final class PromiseTest {
         due("flap 4", x.often(0, 4, true), -1);
         due("flap -1", x.often(0, -1, true), -1);
         due("drum 2", x.often(2, 0, true), -1);
-        promise = 33;
+        promise(33);
         due("of several the least", x.usual(0, 0), 0);
         due("how many", x.usual(0, 1), 2);
         row(0, "c");
@@ -947,7 +880,7 @@ public final class PromiseTest {
         due("what 2", x.usual(0, 2), -1);
         due("what -1", x.usual(0, -1), -1);
         due("drum 2", x.usual(2, 0), -1);
-        promise = 31;
+        promise(31);
         scroll("x");
         // the first row would want what the second one wanted: x is missed, blanks are home: 2 to 0
         due("scroll's, too", x.log(0, 1), 12);
@@ -1016,7 +949,7 @@ public final class PromiseTest {
         due("what -1", x.farthest(3, -1), -1);
         due("cell 6", x.farthest(6, 0), -1);
         due("cell -1", x.farthest(-1, 0), -1);
-        promise = 36;
+        promise(36);
         due("of its own", x.lacks(3, 0), 3);
         due("of the other", x.lacks(3, 1), 3);
         due("of the other", x.lacks(0, 1), 3);
@@ -1046,14 +979,14 @@ public final class PromiseTest {
         due("never", x.rests(0), -2);
         due("rests", x.rests(3), 0);
         due("nothing was done", x.total(1), 0);
-        promise = 38;
+        promise(38);
         due("unlike", x.unlike(0, 1), 3);
         row(0, " b");
         due("unlike", x.unlike(1, 0), 1);
         due("like ones", x.unlike(1, 1), -1);
         due("row 2", x.unlike(0, 2), -1);
         due("row -1", x.unlike(-1, 0), -1);
-        promise = 39;
+        promise(39);
         shown("shown", letters(0), "ab /   ");
         shown("wanted", letters(1), " b /   ");
         due("how many", x.letter(0, -1), 7);
@@ -1074,7 +1007,7 @@ public final class PromiseTest {
         due("digest", x.digest(), h);
         x.wear(0, 1);
         due("digest", x.digest(), h + 2);
-        promise = 41;
+        promise(41);
         tape("abc");
         x.keep(0);
         int[] counts = {1, 1, 1, 3, 1, 1, 3, 1, 0};

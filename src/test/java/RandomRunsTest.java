@@ -95,8 +95,7 @@ public final class RandomRunsTest {
         boolean fine = true;
         if (real.count(6) > 0) fine = call("end", 0);
         for (int i = 0; i < s.length() && fine; i += 20) {
-            int[] v = new int[5];
-            for (int k = 0; k < 20; k++) v[k / 4] = v[k / 4] << 8 | (i + k < s.length() ? s.charAt(i + k) : 0);
+            int[] v = Bench.packed(s, i);
             fine = call("feed", v[0], v[1], v[2], v[3], v[4]);
         }
         fine = fine && call("end", s.length());

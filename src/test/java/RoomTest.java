@@ -12,8 +12,7 @@ public final class RoomTest {
         x.end(0);
         calls++;
         for (int i = 0; i < s.length(); i += 20) {
-            int[] v = new int[5];
-            for (int k = 0; k < 20; k++) v[k / 4] = v[k / 4] << 8 | (i + k < s.length() ? s.charAt(i + k) : 0);
+            int[] v = Bench.packed(s, i);
             x.feed(v[0], v[1], v[2], v[3], v[4]);
             calls++;
         }
