@@ -191,6 +191,19 @@ public final class BoardTextSentencesTest extends Sentences {
         fault("board 1 1 liMit 5" + DRUM, 10, 1);
         fault("board`1 1 limit 5" + DRUM, 5, 1);
         fault("board{1 1 limit 5" + DRUM, 5, 1);
+        fault("boardz 1 1 limit 5" + DRUM, 0, 1);
+        fault("boarda 1 1 limit 5" + DRUM, 0, 1);
+        // each letter counts
+        for (String word : new String[] {"drum", "cells", "worn", "row", "lose"}) {
+            for (int k = 0; k < word.length(); k++) {
+                fault(ONE + ";" + word.substring(0, k) + "q" + word.substring(k + 1) + " 0 0 0", BEHIND_ONE + 1, 1);
+                fault(ONE + ";" + word.substring(0, k) + word.substring(k + 1) + " 0 0 0", BEHIND_ONE + 1, 1);
+            }
+        }
+        for (int k = 0; k < 5; k++) {
+            fault("board".substring(0, k) + "q" + "board".substring(k + 1) + " 1 1 limit 5", 0, 1);
+            fault("board 1 1 " + "limit".substring(0, k) + "q" + "limit".substring(k + 1) + " 5", 10, 1);
+        }
 
         on("NUMBERS digits, as far as they go on");
         // letters go on into no digit, digits into no letter; "11" is one number

@@ -74,6 +74,9 @@ public final class ProgramSentencesTest extends Sentences {
     private static void homes() {
         on("home ROW (its CELLS WANT HOME)");
         told(SMALL + ";row 0 'bc';row 1 'cd'", 1);
+        ran("home 0", 1);
+        shown("wanted", letters(1), "aa/cd");
+        x.undo();
         ran("home 1", 1);
         shown("wanted", letters(1), "bc/aa");
         due("left", x.left(0), 3);
@@ -169,6 +172,11 @@ public final class ProgramSentencesTest extends Sentences {
         runFault(" rows 0 'a'", 1, 1);
         runFault("board 1 1 limit 5", 0, 1);
         for (String word : new String[] {"drum", "cells", "worn", "limit", "board"}) runFault("settle;" + word, 7, 1);
+        for (String word : new String[] {"row", "scroll", "home", "wait", "settle", "lose", "times"}) {
+            for (int k = 0; k < word.length(); k++) {
+                runFault("wait 1;" + word.substring(0, k) + "q" + word.substring(k + 1) + " 0", 7, 1);
+            }
+        }
         runFault("wait x", 5, 1);
         runFault("wait", 4, 1);
         runFault("wait  ", 6, 1);

@@ -55,6 +55,9 @@ public final class PromiseSentencesTest extends Sentences {
     }
 
     private static void newObject() {
+        on("`NONE = -1`");
+        due("NONE", FlapBoard.NONE, -1);
+
         promise(1, "No BOARD");
         due("cells", x.count(2), 0);
         due("row", x.row(0), -1);
@@ -125,6 +128,31 @@ public final class PromiseSentencesTest extends Sentences {
         for (int what = 0; what < 4; what++) due("total " + what, x.total(what), 0);
         due("steps", x.cell(0, 6), 0);
         due("the shelf holds what it held", x.back(1), 6);
+
+        promise(4, "in place of the one there was");
+        // nothing is left of a greater board, nor of what was only tried on it
+        String forty = "drum 9 '" + SIGNS + "';";
+        told("board 4 10 limit 99;" + forty + forty + forty + "drum 9 '" + SIGNS + "';cells 0 39 3;lose 0 3", 4);
+        row(0, "??????????");
+        x.settle();
+        row(0, "zzzzzzzzzz");
+        x.when(0);
+        x.rests(0);
+        told("board 1 2 limit 9;drum 1 ' ab'", 1);
+        for (int what = 0; what < 4; what++) due("total " + what, x.total(what), 0);
+        for (int cell = 0; cell < 2; cell++) {
+            for (int what = 0; what < 9; what++) due("cell " + cell + ", " + what, x.cell(cell, what), 0);
+        }
+        int[] drum = {1, 3, 2, 3, 1};
+        for (int what = 0; what < 5; what++) due("drum " + what, x.drum(0, what), drum[what]);
+        due("no second drum", x.sign(1, 0), -1);
+        due("no second drum", x.drum(1, 0), -1);
+        due("no second drum", x.exchange(1, 1, 2), -1);
+        due("no second drum", x.often(1, 0, true), -1);
+        due("no fourth flap", x.sign(0, 3), -1);
+        due("signs", x.lacks(0, 1), 0);
+        due("log", x.log(0, 1), 0);
+        for (int what = 0; what < 6; what++) due("when " + what, x.when(what), 0);
 
         promise(4, "-2 - its FAULT, and but for the TAPE nothing happens");
         due("the least one", tell("x"), -3);
@@ -702,6 +730,17 @@ public final class PromiseSentencesTest extends Sentences {
         told(SMALL, 1);
         due("what 4", x.left(4), -1);
         for (int n : BEYOND) due("what " + n, x.left(n), -1);
+
+        promise(24, "1: the most of one");
+        told("board 4 10 limit 9;drum 9 '" + SIGNS + "'", 1);
+        row(0, "?");
+        due("of the first cell", x.left(1), 39);
+        row(0, "");
+        row(3, "         ?");
+        due("of the last cell", x.left(1), 39);
+        row(3, "????????? ");
+        due("together", x.left(0), 9 * 39);
+        due("times current", x.left(2), 9 * 9 * 39);
     }
 
     private static void whens() {
@@ -730,6 +769,23 @@ public final class PromiseSentencesTest extends Sentences {
         x.limit(1);
         int[] none = {0, 0, 0, 0, 1, 0};
         for (int what = 0; what < 6; what++) due("none turns, " + what, x.when(what), none[what]);
+
+        promise(25, "3: the most CURRENT at once");
+        told("board 1 3 limit 9;drum 9 'abcd';drum 1 'abcd';cells 1 2 1", 2);
+        row(0, " dd");
+        due("two of 1", x.when(3), 2);
+        row(0, "bdd");
+        // first the two, then the one of 9 alone
+        due("one of 9", x.when(3), 9);
+        x.limit(8);
+        due("it cannot turn", x.when(3), 2);
+
+        promise(25, "4: CELLS that SHOW another SIGN than they WANT then");
+        told("board 4 10 limit 8;drum 9 'ab'", 1);
+        run("row 0 'bbbbbbbbbb';row 1 'bbbbbbbbbb';row 2 'bbbbbbbbbb';row 3 'bbbbbbbbbb'");
+        due("none can turn", x.when(4), 40);
+        x.limit(9);
+        due("all can", x.when(4), 0);
 
         promise(25, "NONE for others, without a BOARD");
         for (int what = -1; what <= 6; what++) due("without a board", x.when(what), -1);
@@ -795,6 +851,10 @@ public final class PromiseSentencesTest extends Sentences {
         tape("acb");
         due("round about", x.cost(0), 1);
         due("another row", x.cost(1), 3);
+        told("board 2 3 limit 9;drum 1 'abcd';row 0 'dcb';row 1 'ddd';worn 1 3", 1);
+        tape("acb");
+        due("the row alone", x.cost(0), 1);
+        due("another row", x.cost(1), 1 + 3 + 2);
         tape("a");
         due("home behind it", x.cost(0), 1 + 2 + 3);
         tape("");
@@ -808,7 +868,7 @@ public final class PromiseSentencesTest extends Sentences {
         row(0, "aaa");
         tape("xxx");
         due("all miss", x.cost(0), 0);
-        shown("nothing was wanted", letters(1), "aaa/aaa");
+        shown("nothing was wanted", letters(1), "aaa/ddd");
         due("log", x.log(0, 1), 3);
 
         promise(28, "-2: as row(); NONE without that ROW");
@@ -841,6 +901,21 @@ public final class PromiseSentencesTest extends Sentences {
         due("fewest, the first of two", x.best(0, 0), 2);
         due("misses", x.best(0, 2), 0);
         due("tape", x.count(6), 10);
+
+        promise(29, "2: how many MISS");
+        told(SAMPLE, 2);
+        tape("xyz");
+        due("all of one row", x.best(0, 2), 3);
+        due("none of the other", x.best(1, 2), 0);
+        told("board 4 10 limit 9;drum 1 'ab';drum 1 'ax';cells 31 39 1", 2);
+        tape("bxxxxxxxxx");
+        due("none of the last row", x.best(3, 2), 0);
+        tape("xxxxxxxxxb/bbbbbbbbbb/x");
+        due("those that stand where they cannot", x.best(3, 0), 2);
+        due("one", x.best(3, 2), 1);
+        tape("xb/bx");
+        due("both of the first", x.best(3, 0), 0);
+        due("both of the first", x.best(3, 2), 2);
 
         promise(29, "Of some WORDS on the TAPE (which stays), with / (47) between");
         told("board 2 3 limit 9;drum 1 'abcd';row 0 'bcd'", 1);
@@ -906,6 +981,27 @@ public final class PromiseSentencesTest extends Sentences {
         due("all miss", x.place(0, 0), 0);
         due("cost", x.place(0, 1), 0);
 
+        promise(30, "The word on the TAPE (which stays; 1 SIGN and more) stands in a ROW from some column on, all others WANT HOME");
+        told("board 2 3 limit 9;drum 1 'ab';drum 1 'ax';cells 1 1 1;row 1 'bbb'", 2);
+        tape("xb");
+        // from 0 both miss, from 1 none; in the other row all are of the first drum
+        due("sign by sign", x.place(0, 0), 1);
+        due("cost", x.place(0, 1), 2);
+        due("one misses anywhere", x.place(1, 0), 0);
+        due("cost", x.place(1, 1), 1);
+        told("board 1 3 limit 9;drum 1 'abcd';row 0 'aab'", 1);
+        tape("b");
+        due("the last one costs least", x.place(0, 0), 2);
+        due("cost", x.place(0, 1), 0);
+        told("board 1 2 limit 9;drum 1 'abcd';drum 1 'axyz';cells 1 1 1", 2);
+        tape("d");
+        due("none misses, at more cost", x.place(0, 0), 0);
+        due("cost", x.place(0, 1), 3);
+        told("board 4 10 limit 9;drum 1 'abcd';row 3 '         d'", 1);
+        due("the tape is empty", x.place(3, 0), -2);
+        tape("d");
+        due("the last cell of all", x.place(3, 0), 9);
+
         promise(30, "-2: as row(), or there is no SIGN; NONE without these");
         tape("b");
         due("without a board", x.place(0, 0), -1);
@@ -938,8 +1034,17 @@ public final class PromiseSentencesTest extends Sentences {
         // 3 to 0 twice, 1 to 3
         int[] then = {11, 6, 4};
         for (int what = 0; what < 3; what++) due("log " + what, x.log(0, what), then[what]);
+        // no drum's log goes into another one's: from home, from the last flap
+        told("board 1 3 limit 9;drum 1 'ab';drum 1 'abcd';drum 1 'ab';cells 1 1 1;cells 2 2 2;row 0 'bdb'", 3);
+        row(0, "aca");
+        x.settle();
+        row(0, "bdb");
+        int[][] each = {{2, 2, 2}, {4, 2, 2}, {2, 2, 2}};
+        for (int drum = 0; drum < 3; drum++) {
+            for (int what = 0; what < 3; what++) due("log " + drum + ", " + what, x.log(drum, what), each[drum][what]);
+        }
         due("what 3", x.log(0, 3), -1);
-        due("drum 2", x.log(2, 0), -1);
+        due("drum 3", x.log(3, 0), -1);
         for (int n : BEYOND) {
             due("what " + n, x.log(0, n), -1);
             due("drum " + n, x.log(n, 0), -1);
@@ -957,6 +1062,11 @@ public final class PromiseSentencesTest extends Sentences {
         due("to 3", x.often(0, 3, true), 2);
         due("from 3", x.often(0, 3, false), 0);
         due("to 1", x.often(0, 1, true), 1);
+        due("from 1", x.often(0, 1, false), 0);
+        due("to 2", x.often(0, 2, true), 0);
+        due("from 2", x.often(0, 2, false), 0);
+        due("to home", x.often(1, 0, true), 0);
+        due("from 1", x.often(1, 1, false), 0);
         due("to 39", x.often(1, 39, true), 2);
         due("from home", x.often(1, 0, false), 2);
         due("flap 4", x.often(0, 4, true), -1);
@@ -1014,6 +1124,10 @@ public final class PromiseSentencesTest extends Sentences {
         row(0, "d");
         // 0 to 3: by 1 and 3 one flap on
         better(1, 1, 3);
+        told("board 1 1 limit 9;drum 1 'abcd'", 1);
+        row(0, "c");
+        // one less
+        better(1, 1, 2);
         told("board 1 1 limit 9;drum 1 'abcde';row 0 'b'", 1);
         row(0, "e");
         // 1 to 4: by 1 and 3, by 2 and 4 beside one another
@@ -1030,6 +1144,17 @@ public final class PromiseSentencesTest extends Sentences {
         row(0, "c");
         // 1 to 5 twice, 1 to 2: 9; 1 and 4: 2 + 4, 2 and 5: 2 + 4, 1 and 3: 4 + 5, 3 and 5: 4 + 1, 4 and 5: 6 + 1
         better(5, 3, 5);
+
+        promise(34, "The two FLAPS of a DRUM (neither HOME) that had better changed places");
+        told("board 1 1 limit 9;drum 1 'abcd';row 0 'b'", 1);
+        row(0, "");
+        // 1 to 0: 3; by home and 1 it would be 1, too, and the least first one
+        better(1, 1, 3);
+        told("board 1 1 limit 9;drum 1 'abc';row 0 'c'", 1);
+        row(0, "b");
+        row(0, "");
+        // 2 to 1, 2 to 0: 2 + 1; 1 and 2: 1 + 2; home and 1: 1 + 2, home and 2: 1 + 2
+        due("no less", x.better(0, 0), -2);
 
         promise(34, "(each entry by where its FLAPS would be then)");
         told("board 1 2 limit 9;drum 1 'abcd';row 0 'bd'", 1);
@@ -1113,6 +1238,12 @@ public final class PromiseSentencesTest extends Sentences {
         due("a, c, d", x.lacks(1, 1), 3);
         told(SMALL, 1);
         due("one drum", x.lacks(0, 1), 0);
+        told("board 1 1 limit 9;drum 1 'ab';drum 1 'ca'", 2);
+        due("its own home's sign is not lacking, another home's is", x.lacks(0, 1), 1);
+        told("board 1 1 limit 9;drum 1 ' b';drum 1 ' b'", 2);
+        due("none", x.lacks(0, 1), 0);
+        told("board 1 1 limit 9;drum 1 'ab';drum 1 '~ '", 2);
+        due("the first and the last sign", x.lacks(0, 1), 2);
 
         promise(36, "NONE without these");
         due("without a board", x.lacks(0, 0), -1);
@@ -1222,6 +1353,8 @@ public final class PromiseSentencesTest extends Sentences {
         long due = 17;
         for (int part : new int[] {1, 0, 1, 1, 0, 4}) due = due * 31 + part;
         due("one cell", x.digest(), due);
+        x.lose(0, 9);
+        due("it loses nine", x.digest(), due + 9 * 31);
         told("board 4 10 limit 10;drum 1 '" + SIGNS + "'", 1);
         row(3, "??????????");
         x.tick(5);
@@ -1246,6 +1379,17 @@ public final class PromiseSentencesTest extends Sentences {
         for (int what = 0; what < 9; what++) due("count " + what, x.count(what), due[what]);
         x.keep(0);
         due("both shelves", x.count(7), 3);
+
+        promise(41, "7: SHELVES on which something is KEPT, as bits");
+        due("none", x.count(7), 0);
+        x.keep(2);
+        due("none", x.count(7), 0);
+        x.keep(1);
+        due("the second", x.count(7), 2);
+        x.back(1);
+        due("the second still", x.count(7), 2);
+        x.keep(0);
+        due("both", x.count(7), 3);
 
         promise(41, "8: CELLS that TURN in the next TICK. NONE for others");
         told("board 4 10 limit 40;drum 1 'ab';drum 9 'ab'", 2);

@@ -218,6 +218,10 @@ public final class TurningSentencesTest extends Sentences {
         told("board 2 3 limit 9;drum 1 'abcd'", 1);
         row(1, "bcd");
         cells(3, 0, 0, 0, 1, 2, 3);
+        row(0, "dcb");
+        cells(3, 3, 2, 1, 1, 2, 3);
+        row(0, "");
+        cells(3, 0, 0, 0, 1, 2, 3);
 
         on("CELLS behind the last SIGN WANT HOME (that never MISSES)");
         told("board 1 3 limit 9;drum 1 'abcd';row 0 'ddd';worn 2 1;worn 2 2;worn 2 3", 1);
@@ -251,6 +255,11 @@ public final class TurningSentencesTest extends Sentences {
         state(0, 2, 2, 2, 5);
         state(1, 0, 0, 0, 0);
         due("no steps", x.total(2), 0);
+        // no other row, whichever is told first
+        told("board 3 2 limit 9;drum 1 'abcd';row 2 'dd';row 0 'bb';row 1 'cc'", 1);
+        shown("shown", letters(0), "bb/cc/dd");
+        told("board 3 2 limit 9;drum 1 'abcd';row 2 'dd';row 0 'b';row 1 ''", 1);
+        shown("shown", letters(0), "ba/aa/dd");
     }
 
     private static void wornAsWanted() {
