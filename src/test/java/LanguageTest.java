@@ -5,7 +5,9 @@ import java.lang.reflect.Modifier;
 import java.nio.file.Files;
 import java.nio.file.Path;
 import java.util.Arrays;
+import java.util.Map;
 import java.util.Set;
+import java.util.TreeMap;
 import java.util.TreeSet;
 import java.util.regex.Matcher;
 import java.util.regex.Pattern;
@@ -28,6 +30,7 @@ public final class LanguageTest {
         nested(FlapBoard.class);
         words(bare(source));
         methodLengths(source);
+        callDepths(bare(source));
         System.out.println(wrong == 0 ? "the language is kept to" : wrong + " rules are broken");
         if (wrong != 0) System.exit(1);
     }
@@ -124,5 +127,45 @@ public final class LanguageTest {
             while (last < lines.length && !lines[last].equals(m.group(1) + "}")) last++;
             if (last - i > 60) fault("long: " + lines[i].trim());
         }
+    }
+
+    /** By names, as no two methods of the file bear the same one: no recursion, and at most eight calls open at once. */
+    private static void callDepths(String bare) {
+        Map<String, String> bodies = new TreeMap<>();
+        Pattern head = Pattern.compile("(?m)^( {4}| {8})(?! |if|for|while|switch|else|return|new)[\\w \\[\\]]*?(\\w+)\\([^()]*\\) \\{$");
+        Matcher m = head.matcher(bare);
+        while (m.find()) {
+            int end = bare.indexOf("\n" + m.group(1) + "}", m.end());
+            if (bodies.put(m.group(2), bare.substring(m.end(), end)) != null) fault("two methods of one name: " + m.group(2));
+        }
+        for (Class<?> c : FlapBoard.class.getDeclaredClasses()) found(c, bodies.keySet());
+        found(FlapBoard.class, bodies.keySet());
+        Map<String, Integer> depths = new TreeMap<>();
+        for (String name : bodies.keySet()) {
+            int depth = depth(name, bodies, depths, new TreeSet<>());
+            if (depth > 8) fault(depth + " calls deep: " + name);
+        }
+    }
+
+    private static void found(Class<?> c, Set<String> names) {
+        for (Method method : c.getDeclaredMethods()) {
+            if (!names.contains(method.getName())) fault("not found in the source: " + method);
+        }
+    }
+
+    private static int depth(String name, Map<String, String> bodies, Map<String, Integer> depths, Set<String> open) {
+        if (depths.containsKey(name)) return depths.get(name);
+        if (!open.add(name)) {
+            fault("recursion: " + name);
+            return 0;
+        }
+        int most = 0;
+        Matcher m = Pattern.compile("\\b(\\w+)\\(").matcher(bodies.get(name));
+        while (m.find()) {
+            if (bodies.containsKey(m.group(1))) most = Math.max(most, depth(m.group(1), bodies, depths, open));
+        }
+        open.remove(name);
+        depths.put(name, most + 1);
+        return most + 1;
     }
 }
